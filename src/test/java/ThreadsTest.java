@@ -9,6 +9,7 @@ public final class ThreadsTest {
         pullLowersOthers();
         pullOfHeldOrUpright();
         pullOfCrossed();
+        pullOfEight();
         pullThatWouldNotFit();
         pullReasonsInOrder();
         pullWrong();
@@ -157,6 +158,27 @@ public final class ThreadsTest {
         check.is("broken", y.thread(1, 3), 2);
         y.glue(2);
         check.is("hindered no more", y.pull(0), 8);
+
+        BottleShip z = withMasts(10, 20);
+        z.lead(1, -1, 9);
+        z.lead(0, -1, 8);
+        check.is("hindered by the very first one", z.pull(1), -2);
+    }
+
+    private static void pullOfEight() {
+        BottleShip x = withMasts(10, 20, 30);
+        for (int strength = 1; strength <= 7; strength++) {
+            x.lead(0, -1, strength);
+        }
+        x.lead(1, 0, 1);
+        check.is("the strongest one", x.pull(6), 8);
+        check.is("the last one", x.pull(7), 8);
+        leans("pulled", x, 9, 8, 9);
+        check.is("the weakest one", x.pull(0), -2);
+        check.is("crossed ones", x.thread(6, 4), 5);
+        check.is("fewest without a thread of mast 2", x.fewest(), -1);
+        check.is("least", x.least(0), 0);
+        check.is("glue the last one", x.glue(7), 1);
     }
 
     private static void pullThatWouldNotFit() {
