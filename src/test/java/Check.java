@@ -1,11 +1,28 @@
 /** Counts the answers of one test that are not as due. */
 final class Check {
     private final String test;
+    private String sentence = "";
+    private int sentences;
+    private int atSentence;
     private int right;
     private int wrong;
 
     Check(String test) {
         this.test = test;
+    }
+
+    /** What follows tests this sentence of the document. */
+    void sentence(String words) {
+        endSentence();
+        sentence = "\"" + words + "\": ";
+        sentences++;
+        atSentence = right + wrong;
+    }
+
+    private void endSentence() {
+        if (sentences > 0 && right + wrong == atSentence) {
+            note(false, "a sentence without a test", "nothing", "something");
+        }
     }
 
     void is(String what, long answer, long due) {
@@ -38,7 +55,7 @@ final class Check {
 
     /** Exactly this exception is due, and an object that is as it was before. */
     private void throwsKind(BottleShip x, String what, Runnable call, Class<?> due) {
-        long before = x.digest();
+        String before = Told.all(x);
         String answer = "nothing";
         try {
             call.run();
@@ -46,7 +63,7 @@ final class Check {
             answer = e.getClass().getName();
         }
         note(answer.equals(due.getName()), what + " throws", answer, due.getName());
-        is(what + " changes nothing", x.digest(), before);
+        is(what + " changes nothing", Told.all(x), before);
     }
 
     private void note(boolean good, String what, String answer, String due) {
@@ -54,11 +71,12 @@ final class Check {
             right++;
         } else {
             wrong++;
-            System.out.println(test + ": " + what + " answered " + answer + ", due is " + due);
+            System.out.println(test + ": " + sentence + what + " answered " + answer + ", due is " + due);
         }
     }
 
     void end() {
+        endSentence();
         System.out.println(test + ": " + right + " as due, " + wrong + " not");
         if (wrong > 0 || right == 0) {
             System.exit(1);

@@ -9,7 +9,7 @@ public final class DigestTest {
         check.end();
     }
 
-    private static long sum(long... numbers) {
+    static long sum(long... numbers) {
         long d = 823;
         for (long x : numbers) {
             d = d * 31 + x;
