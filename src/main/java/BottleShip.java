@@ -676,7 +676,7 @@ public final class BottleShip {
 
         void reach(int from, int state, int thread) {
             int opener = steps[from] == 0 ? thread : openers[from];
-            if (steps[state] == NONE) {
+            if (steps[state] == NONE && reached < STATES) {
                 steps[state] = steps[from] + 1;
                 openers[state] = opener;
                 queue[reached] = state;

@@ -12,6 +12,8 @@ public final class LookingAheadEdgesTest {
         fewestLeastAndMost();
         fewestOneAfterTheOther();
         fewestInBottle();
+        fewestRoundabout();
+        fitsNoMore();
         firstNone();
         firstSmallest();
         firstOfFewest();
@@ -135,6 +137,55 @@ public final class LookingAheadEdgesTest {
             Ships.inside(x);
             check.is("inside a belly of " + high, x.fewest(), high >= 13 ? 9 : -1);
             check.is("first", x.first(), high >= 13 ? 0 : -1);
+        }
+    }
+
+    /** In a narrow belly masts must be let down and raised again and again. */
+    private static void fewestRoundabout() {
+        check.sentence("fewest and first, where the straight way would not fit");
+        BottleShip x = new BottleShip();
+        x.setBottle(20, 16, 17, 0);
+        x.setHull(14, 4, 1);
+        int[][] masts = {{11, 7}, {10, 6}, {9, 9}};
+        for (int[] m : masts) {
+            x.lead(x.step(m[0], m[1]), -1, 9);
+        }
+        x.lead(1, 0, 9);
+        x.lead(0, 2, 9);
+        for (int thread : new int[] {0, 2, 0, 0, 2}) {
+            Ships.pull(x, thread, 1);
+        }
+        check.is("outside", x.fewest(), 27);
+        Ships.inside(x);
+        for (int left = 47; left > 0; left--) {
+            check.is("inside", x.fewest(), left);
+            check.is("the pull is done", x.pull(x.first()) >= 0, true);
+        }
+        check.is("all are upright", x.count(2), 3);
+        check.is("pulls", x.count(6), 5 + 47);
+        check.is("none failed", x.count(7), 0);
+    }
+
+    /** A mast that fell ends at 48, and at 47 behind a pull; until then no other pull is done. */
+    private static void fitsNoMore() {
+        check.sentence("looking ahead from a ship that does not fit");
+        for (int length : new int[] {46, 47, 48}) {
+            BottleShip x = new BottleShip();
+            x.setBottle(20, 60, length, 0);
+            x.step(39, 9);
+            x.step(20, 2);
+            x.lead(0, -1, 1);
+            Ships.pull(x, 0, 2);
+            Ships.inside(x);
+            x.lead(1, -1, 9);
+            x.pull(0);
+            x.pass(2);
+            x.lead(0, -1, 9);
+            check.is("it fits a belly of " + length, x.ship(4), length == 48 ? 1 : 0);
+            check.is("fewest", x.fewest(), length == 46 ? -1 : 18);
+            check.is("first", x.first(), length == 46 ? -1 : length == 47 ? 2 : 1);
+            check.is("least", x.least(0), length == 46 ? 9 : 0);
+            check.is("least of the other one", x.least(1), length == 46 ? 9 : 0);
         }
     }
 
