@@ -666,15 +666,25 @@ public final class BottleShip {
             row[2] = state / 100;
         }
 
+        static boolean isState(int number) {
+            return number >= 0 && number < STATES;
+        }
+
         void begin(int start) {
             Arrays.fill(steps, NONE);
             Arrays.fill(openers, NONE);
-            steps[start] = 0;
-            queue[0] = start;
-            reached = 1;
+            reached = 0;
+            if (isState(start)) {
+                steps[start] = 0;
+                queue[0] = start;
+                reached = 1;
+            }
         }
 
         void reach(int from, int state, int thread) {
+            if (!isState(from) || !isState(state)) {
+                return;
+            }
             int opener = steps[from] == 0 ? thread : openers[from];
             if (steps[state] == NONE && reached < STATES) {
                 steps[state] = steps[from] + 1;
